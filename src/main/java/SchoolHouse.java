@@ -109,7 +109,7 @@ public final class SchoolHouse {
     }
 
     public int marks(int p, int course, int n) {
-        if (!isPlace(p, course) || n < -1 || n > Rows.MOST_ITEMS) return BAD;
+        if (!areThere(p, course) || n < -1 || n > Rows.MOST_ITEMS) return BAD;
         if (!people.isPupil(p)) return NO;
         int row = People.NO_ROW;
         if (n >= 0) {
@@ -121,7 +121,7 @@ public final class SchoolHouse {
     }
 
     public int mark(int p, int course, int i, int v) {
-        if (!isPlace(p, course)) return BAD;
+        if (!areThere(p, course)) return BAD;
         int row = people.marksOf(p, course);
         if (!rows.has(row, i)) return NO;
         int old = (int) rows.get(row, i);
@@ -130,14 +130,14 @@ public final class SchoolHouse {
     }
 
     public int markOf(int p, int course, int i) {
-        if (!isPlace(p, course)) return BAD_MARK;
+        if (!areThere(p, course)) return BAD_MARK;
         int row = people.marksOf(p, course);
         if (i == -1) return row < 0 ? NO_MARK : rows.size(row);
         return rows.has(row, i) ? (int) rows.get(row, i) : NO_MARK;
     }
 
     /** Whether there is such a person and such a course. */
-    private boolean isPlace(int p, int course) {
+    private boolean areThere(int p, int course) {
         return people.has(p) && text.has(Text.COURSE, course);
     }
 
@@ -252,7 +252,7 @@ public final class SchoolHouse {
     // ---- choices
 
     public int prefer(int p, int course) {
-        if (!isPlace(p, course)) return BAD;
+        if (!areThere(p, course)) return BAD;
         if (!people.isPupil(p) || choices.rankOf(p, course) >= 0) return NO;
         return choices.rank(p, course);
     }
@@ -262,7 +262,7 @@ public final class SchoolHouse {
     }
 
     public int ticket(int p, int course) {
-        return isPlace(p, course) ? choices.ticketOf(p, course) : 0;
+        return areThere(p, course) ? choices.ticketOf(p, course) : 0;
     }
 
     public int match(int way) {
@@ -1264,7 +1264,7 @@ public final class SchoolHouse {
             if (held + 2 > starts.length) starts = Arrays.copyOf(starts, starts.length * 2);
             int from = starts[held];
             if (from + size > items.length) items = Arrays.copyOf(items, items.length * 2);
-            Arrays.fill(items, from, from + size, first);
+            for (int i = from; i < from + size; i++) items[i] = first;
             made++;
             held++;
             starts[held] = from + size;
@@ -1318,7 +1318,7 @@ public final class SchoolHouse {
             kinds[count] = kind;
             worths[count] = worth;
             groups[count] = group;
-            Arrays.fill(marks, count * Text.MOST_COURSES, (count + 1) * Text.MOST_COURSES, NO_ROW);
+            for (int c = 0; c < Text.MOST_COURSES; c++) marks[count * Text.MOST_COURSES + c] = NO_ROW;
             count++;
             return count - 1;
         }
@@ -2460,7 +2460,7 @@ public final class SchoolHouse {
         /** Each pupil not yet placed points to its best course with places left; behind its row it is away. */
         private void pointPupils() {
             for (int p = 0; p < people.howMany(); p++) {
-                while (isWaiting(p) && !hasPlaces(courseAt(p, asking[p]))) asking[p]++;
+                for (int n = 0; n < COURSES && isWaiting(p) && !hasPlaces(courseAt(p, asking[p])); n++) asking[p]++;
             }
         }
 

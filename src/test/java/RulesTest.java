@@ -19,6 +19,7 @@ public final class RulesTest {
         tries();
         steps();
         calls();
+        large();
         failuresSpent();
         gave();
         standings();
@@ -497,6 +498,35 @@ public final class RulesTest {
             + "rule g ( x ) { x [ 0 ] = 7 ; x = 3 ; if lacks ( y ) = 0 { raise null ; } y = 1 ; }");
         Check.due("run", x.run(0, 3000, 1, 3, 4, 9), 1);
         Check.due("gave", x.gave(-1), 751);
+    }
+
+    private static void large() {
+        Check.part("large rules");
+        // many variables in each of 8 rules in one another
+        StringBuilder b = new StringBuilder("rule f(n){");
+        for (int i = 0; i < 150; i++) b.append('v').append(i).append("=n;");
+        SchoolHouse x = Check.school(b + "if n>0{v7=f(n-1);}give v0*1000+v149*100+v7;}");
+        Check.due("run", x.run(0, 3000, 7, 0, 0, 0), 1);
+        int due = 0;
+        for (int n = 1; n <= 7; n++) due = n * 1100 + due;
+        Check.due("gave", x.gave(-1), due);
+        // what lies on the stack below a call: the rounds around it, and the parts of its exp
+        x = Check.school("rule f(n){if n<1{give 1;}" + "for i to 1{".repeat(10) + "x=1+f(n-1);" + "}".repeat(10) + "give x;}");
+        Check.due("run", x.run(0, 3000, 7, 0, 0, 0), 1);
+        Check.due("gave", x.gave(-1), 8);
+        x = Check.school("rule f(n){if n<1{give row(2);}r=row(2);copy r,0,r,0," + "1-(".repeat(8) + "size(f(n-1))" + ")".repeat(8) + ";give r;}");
+        Check.due("run", x.run(0, 3000, 7, 0, 0, 0), 4);
+        // as much code as a text can ask for
+        String tries = "try{}".repeat(396);
+        x = Check.school("rule f(){" + tries + "try{raise cast;}" + "on null{}on size{}on index{}on cast{give 7;}" + "}");
+        Check.due("run", x.run(0, 3000, 0, 0, 0, 0), 1);
+        Check.due("gave", x.gave(-1), 7);
+        Check.due("steps", x.steps(), 399);
+        // tries in one another in rules in one another
+        x = Check.school("rule f(n){" + "try{".repeat(9) + "if n{give f(n-1);}raise size;" + "}always{n=n+1;}".repeat(9) + "}");
+        Check.due("run", x.run(0, 3000, 7, 0, 0, 0), SIZE);
+        Check.due("steps", x.steps(), 8 * 19 + 7 * 2 + 1);
+        Check.due("failures", x.count(12), 1);
     }
 
     private static void failuresSpent() {

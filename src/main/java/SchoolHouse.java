@@ -1539,6 +1539,7 @@ public final class SchoolHouse {
                 if (failing == 0) perform(operand());
                 else passOn();
             }
+            if (result == UNDER_WAY) end(STEPS_SPENT, 0);
             return result;
         }
 

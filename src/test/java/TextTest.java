@@ -346,6 +346,11 @@ public final class TextTest {
         fault("rule f(x){x=x[" + "x[".repeat(10) + "x@[x]" + "]".repeat(11) + ";}");
         ok("rule f(x){x[" + "x[".repeat(10) + "x" + "]".repeat(11) + "=x;}", 1);
         fault("rule f(x){x[" + "x[".repeat(10) + "x@[x]" + "]".repeat(11) + "=x;}");
+        // in the ( ) of a call, ahead of a comma and behind it
+        for (String call : new String[] {"f(?,x)", "f(x,?)", "level(?,x)", "marks(x,?)", "row(?)", "size(?)", "(?)", "x[?]"}) {
+            ok("rule f(x,y){x=" + call.replace("?", "(".repeat(10) + "x" + ")".repeat(10)) + ";}", 1);
+            fault("rule f(x,y){x=" + call.replace("?", "(".repeat(10) + "@(x)" + ")".repeat(10)) + ";}");
+        }
         ok("rule f(x){" + "try{".repeat(11) + "x=x;" + "}".repeat(12), 1);
         fault("rule f(x){" + "try{".repeat(11) + "x=@(x);" + "}".repeat(12));
         fault("rule f(x){" + "try{".repeat(11) + "x@[x]=x;" + "}".repeat(12));

@@ -19,6 +19,17 @@ final class Check {
         if (wrong <= 50) System.out.println(part + ": " + call + " answered " + got + ", due is " + want);
     }
 
+    interface Call {
+        long answer(int n);
+    }
+
+    /** Numbers far outside, below 0, and the first one too great are all refused. */
+    static void wrong(Call call, long due, int tooGreat) {
+        for (int n : new int[] {Integer.MIN_VALUE, -1000000, -100, tooGreat, tooGreat + 1, 1000000, Integer.MAX_VALUE}) {
+            due("with " + n, call.answer(n), due);
+        }
+    }
+
     /** Puts a text on the tape, eight bytes at a time. */
     static void feed(SchoolHouse x, String text) {
         byte[] bytes = text.getBytes(StandardCharsets.ISO_8859_1);

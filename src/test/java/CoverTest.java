@@ -9,6 +9,8 @@ public final class CoverTest {
         asManyAsCanBe();
         theLeastRow();
         covers();
+        otherPeriods();
+        whoIsBusy();
         Check.finish();
     }
 
@@ -54,6 +56,16 @@ public final class CoverTest {
         Check.due("at another period", x.absent(0, 1, 1), 0);
         Check.due("cover", x.cover(0), 0);
         row(x, -9);
+        SchoolHouse y = x;
+        Check.wrong(n -> y.absent(n, 0, 1), -1, 2);
+        Check.wrong(n -> y.absent(0, n, 1), -1, 20);
+        Check.wrong(n -> y.absent(0, 0, n), -1, 2);
+        Check.due("nobody is absent by what is refused", x.cover(0), 0);
+        row(x, -9);
+        x.absent(0, 0, 1);
+        Check.due("twice", x.absent(0, 0, 1), 0);
+        x.cover(0);
+        row(x, 1);
         // absences outlast a new table
         x.absent(0, 0, 1);
         x.wish(0, 5, 1);
@@ -163,5 +175,104 @@ public final class CoverTest {
         x.week(4);
         Check.due("no table", x.covers(1), -2);
         Check.due("no unit", x.covers(2), -1);
+    }
+
+    /** Lessons of staff 0 at PERIOD 19 and of staff 1 at PERIOD 7. */
+    private static SchoolHouse apart() {
+        SchoolHouse x = Check.school("subject s ; staff a teacher : s ; staff b tutor : s ; staff c head : s ; room r 9 ; room q 9 ; group g 9 ; group h 9 ; "
+            + "lesson l : s g a 1 ; lesson m : s h b 1 ;");
+        x.wish(0, 19, -1);
+        x.wish(1, 7, -1);
+        x.build(10000);
+        Check.due("period", x.unit(0, 1), 19);
+        Check.due("period", x.unit(1, 1), 7);
+        return x;
+    }
+
+    private static void otherPeriods() {
+        Check.part("promise 30, other periods");
+        SchoolHouse x = apart();
+        Check.wrong(x::cover, -1, 20);
+        x.absent(0, 19, 1);
+        x.absent(1, 7, 1);
+        Check.due("cover", x.cover(19), 0);
+        row(x, 1, -9);
+        Check.due("cover", x.cover(7), 0);
+        row(x, -9, 0);
+        // who is absent at 7 has no OPEN unit at 19, and is no help at 7
+        x.absent(0, 7, 1);
+        Check.due("cover", x.cover(7), 0);
+        row(x, -9, 2);
+        x.absent(2, 7, 1);
+        Check.due("cover", x.cover(7), 1);
+        row(x, -9, -9);
+        x.absent(0, 7, 0);
+        Check.due("cover", x.cover(7), 0);
+        row(x, -9, 0);
+        Check.due("cover", x.cover(19), 0);
+        row(x, 1, -9);
+        x.absent(0, 19, 0);
+        Check.due("cover", x.cover(19), 0);
+        row(x, -9, -9);
+        for (int p = 0; p < 20; p++) {
+            Check.due("nothing is open", x.cover(p), 0);
+            row(x, -9, p == 7 ? 0 : -9);
+        }
+        // one of staff is barred where it is said, not elsewhere
+        x = apart();
+        x.bar(0, 7, 1);
+        x.bar(1, 18, 1);
+        x.bar(2, 6, 1);
+        x.build(10000);
+        x.absent(0, 19, 1);
+        x.absent(1, 7, 1);
+        Check.due("cover", x.cover(7), 0);
+        row(x, -9, 2);
+        Check.due("cover", x.cover(19), 0);
+        row(x, 1, -9);
+        x.bar(0, 7, 0);
+        x.bar(1, 19, 1);
+        x.build(10000);
+        Check.due("cover", x.cover(7), 0);
+        row(x, -9, 0);
+        Check.due("cover", x.cover(19), 0);
+        row(x, 2, -9);
+    }
+
+    private static void whoIsBusy() {
+        Check.part("promise 30, who is in a unit there");
+        // staff 0 is free; of those who have a unit at 0 none can cover another one there, absent or not
+        SchoolHouse x = Check.school("subject s ; staff z teacher : s ; staff a teacher : s ; staff b tutor : s ; room r 9 ; room q 9 ; group g 9 ; group h 9 ; "
+            + "lesson l : s g a 1 ; lesson m : s h b 1 ;");
+        x.build(10000);
+        Check.due("period", x.unit(0, 1), 0);
+        Check.due("period", x.unit(1, 1), 0);
+        x.absent(1, 0, 1);
+        Check.due("cover", x.cover(0), 0);
+        row(x, 0, -9);
+        x.absent(2, 0, 1);
+        Check.due("cover", x.cover(0), 1);
+        row(x, 0, -9);
+        x.absent(1, 0, 0);
+        Check.due("cover", x.cover(0), 0);
+        row(x, -9, 0);
+        x.absent(0, 0, 1);
+        Check.due("cover", x.cover(0), 1);
+        row(x, -9, -9);
+        x.absent(2, 0, 0);
+        Check.due("who is absent without a unit leaves none open", x.cover(0), 0);
+        row(x, -9, -9);
+        SchoolHouse y = x;
+        Check.wrong(y::covers, -1, 2);
+        // a subject that nobody else teaches
+        x = school("s u", 1, "s", "u", "u");
+        x.absent(0, 0, 1);
+        Check.due("cover", x.cover(0), 1);
+        row(x, -9);
+        // the staff teaches the subject of the lesson among others
+        x = school("s u", 1, "u", "s", "s , u", "u");
+        x.absent(0, 0, 1);
+        Check.due("cover", x.cover(0), 0);
+        row(x, 2);
     }
 }

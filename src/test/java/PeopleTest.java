@@ -33,6 +33,23 @@ public final class PeopleTest {
         Check.due("group full ahead of all full", x.pupil(0, 0), -2);
         Check.due("people", x.count(8), 24);
         Check.due("parent", x.parent(0), -3);
+        Check.wrong(n -> x.pupil(n, 0), -1, 2);
+        Check.wrong(n -> x.pupil(0, n), -1, 100);
+        // each group has its own size; person 0 counts, too, and parents do not
+        SchoolHouse y = Check.school("group g 1 ; group h 2 ; group i 99 ;");
+        Check.due("of g", y.pupil(0, 0), 0);
+        Check.due("g is full", y.pupil(0, 0), -2);
+        Check.due("a parent", y.parent(0), 1);
+        Check.due("of h", y.pupil(1, 0), 2);
+        Check.due("of i", y.pupil(2, 0), 3);
+        Check.due("of h", y.pupil(1, 0), 4);
+        Check.due("h is full", y.pupil(1, 0), -2);
+        Check.due("worth ahead of a full group", y.pupil(1, -100), -1);
+        Check.due("people", y.count(8), 5);
+        for (int p = 5; p < 24; p++) Check.due("of i", y.pupil(2, 99 - p), p);
+        Check.due("all full", y.pupil(2, 0), -3);
+        Check.due("the last one", y.person(23, 1), 76);
+        Check.due("none behind", y.person(24, 1), -100);
     }
 
     private static void parents() {
@@ -45,6 +62,8 @@ public final class PeopleTest {
         for (int p = 2; p < 24; p++) Check.due("more", x.parent(0), p);
         Check.due("full", x.parent(0), -3);
         Check.due("full, worth", x.parent(100), -1);
+        Check.wrong(x::parent, -1, 100);
+        Check.due("people", x.count(8), 24);
     }
 
     private static void persons() {
@@ -60,6 +79,8 @@ public final class PeopleTest {
         Check.due("what", x.person(0, -1), -100);
         Check.due("nobody", x.person(5, 0), -100);
         Check.due("nobody", x.person(-1, 0), -100);
+        Check.wrong(n -> x.person(n, 0), -100, 5);
+        Check.wrong(n -> x.person(0, n), -100, 3);
     }
 
     private static void levels() {
@@ -78,6 +99,11 @@ public final class PeopleTest {
         }
         Check.due("nobody", x.level(10, 0), -1);
         Check.due("nobody", x.level(-1, 0), -1);
+        Check.wrong(n -> x.level(n, 0), -1, 10);
+        Check.wrong(n -> x.level(0, n), -1, 4);
+        // a worth above 5 is for heads alone
+        Check.due("a teacher's level", Check.school(STAFF + "staff d head : s ; staff e head : s ; staff f head : s ; staff h teacher : s ; "
+            + "staff i tutor : s ;").level(6, 0), 2);
     }
 
     private static SchoolHouse withMarks() {
@@ -116,6 +142,31 @@ public final class PeopleTest {
         Check.due("rows", x.count(11), 2);
         Check.due("empty", x.marks(3, 0, 0), 0);
         Check.due("empty", x.markOf(3, 0, -1), 0);
+        Check.due("no item", x.markOf(3, 0, 0), -2000000001);
+        Check.due("no item", x.mark(3, 0, 0, 0), -2);
+        Check.due("an empty one is a row", x.count(11), 3);
+        // what is refused leaves the marks, and makes no row
+        x.marks(3, 0, 2);
+        x.mark(3, 0, 1, 8);
+        Check.wrong(n -> x.marks(n, 0, 1), -1, 5);
+        Check.wrong(n -> x.marks(3, n, 1), -1, 2);
+        Check.wrong(n -> x.marks(3, 0, n), -1, 65);
+        Check.due("n", x.marks(3, 0, -2), -1);
+        Check.due("item", x.markOf(3, 0, 1), 8);
+        Check.due("rows", x.count(11), 4);
+        // the marks of another course, and of another pupil, are others
+        x.pupil(0, 0);
+        x.marks(3, 1, 1);
+        x.marks(5, 0, 3);
+        x.marks(5, 1, 4);
+        Check.due("how many", x.markOf(3, 0, -1), 2);
+        Check.due("how many", x.markOf(3, 1, -1), 1);
+        Check.due("how many", x.markOf(5, 0, -1), 3);
+        Check.due("how many", x.markOf(5, 1, -1), 4);
+        for (int c = 0; c < 2; c++) {
+            Check.due("run", x.run(0, 9, 5, c, 0, 0), 4);
+            Check.due("how many", x.gave(-4), 3 + c);
+        }
     }
 
     private static void mark() {
@@ -136,6 +187,17 @@ public final class PeopleTest {
         Check.due("second", x.mark(3, 0, 1, Integer.MAX_VALUE), Integer.MIN_VALUE);
         Check.due("third", x.mark(3, 0, 1, -2), Integer.MAX_VALUE);
         Check.due("the other", x.markOf(3, 0, 0), 0);
+        Check.wrong(n -> x.mark(n, 0, 0, 1), -1, 5);
+        Check.wrong(n -> x.mark(3, n, 0, 1), -1, 2);
+        Check.wrong(n -> x.mark(3, 0, n, 1), -2, 2);
+        Check.due("no such course ahead of no pupil", x.mark(4, 2, 0, 1), -1);
+        Check.due("as it was", x.markOf(3, 0, 1), -2);
+        Check.due("as it was", x.markOf(3, 0, 0), 0);
+        x.marks(3, 0, 64);
+        Check.due("the last of 64", x.mark(3, 0, 63, 9), 0);
+        Check.due("beyond 64", x.mark(3, 0, 64, 9), -2);
+        x.marks(3, 0, -1);
+        Check.due("no marks any more", x.mark(3, 0, 0, 9), -2);
     }
 
     private static void markOf() {
@@ -153,6 +215,13 @@ public final class PeopleTest {
         Check.due("how many", x.markOf(3, 0, -1), 3);
         Check.due("item", x.markOf(3, 0, 2), -8);
         Check.due("item", x.markOf(3, 0, 0), 0);
+        Check.due("nobody", x.markOf(-1, 0, -1), -2000000000);
+        Check.due("no course", x.markOf(3, -1, -1), -2000000000);
+        Check.due("one of staff", x.markOf(0, 0, 0), -2000000001);
+        Check.due("no marks, an item", x.markOf(3, 1, 0), -2000000001);
+        Check.wrong(n -> x.markOf(n, 0, 0), -2000000000, 5);
+        Check.wrong(n -> x.markOf(3, n, 0), -2000000000, 2);
+        Check.wrong(n -> x.markOf(3, 0, n), -2000000001, 3);
     }
 
     private static void rowsSpent() {
@@ -165,6 +234,10 @@ public final class PeopleTest {
         Check.due("marks", x.marks(0, 0, 7), 0);
         Check.due("rows", x.count(11), 6000);
         Check.due("marks", x.marks(0, 0, 8), -3);
+        Check.due("an empty row", x.marks(0, 0, 0), -3);
+        Check.due("n comes first", x.marks(0, 0, 65), -1);
+        x.parent(0);
+        Check.due("no pupil comes first", x.marks(1, 0, 8), -2);
         Check.due("marks that there were", x.markOf(0, 0, -1), 7);
         Check.due("none", x.marks(0, 0, -1), 0);
         Check.due("run", x.run(0, 3000, 1, 0, 0, 0), -22);

@@ -11,12 +11,15 @@ public final class RulesTest {
         wholes();
         reals();
         failureOrder();
+        inOneAnother();
         rows();
         setItems();
         copies();
         people();
         ifAndFor();
         tries();
+        eachFailure();
+        triesAndCalls();
         steps();
         calls();
         large();
@@ -81,6 +84,25 @@ public final class RulesTest {
         ends("give people ( 0 ) ;", 6);
         ends("give teachers ( 0 ) ;", 7);
         ends("give 1 ; give 2.5 ;", 1);
+        // the names of a rule take as many of the wholes as they are
+        for (int n = 0; n <= 4; n++) {
+            SchoolHouse y = school("a , b , c , d".substring(0, Math.max(4 * n - 3, 0)), "give " + "a + 2 * b + 4 * c + 8 * d".substring(0, n == 0 ? 0 : 8 * n - 7)
+                + (n == 0 ? "77" : "") + " ;");
+            Check.due("run", y.run(0, 3000, 1, 1, 1, 1), 1);
+            Check.due("gave", y.gave(-1), n == 0 ? 77 : (1 << n) - 1);
+        }
+        // a rule ends at its own end, whatever rule is told behind it
+        x = Check.school("rule f ( ) { } rule g ( a ) { a = 1 ; } rule h ( ) { give f ( ) ; give 5 ; } rule i ( ) { give 6 ; }");
+        Check.due("run", x.run(0, 9, 0, 0, 0, 0), 0);
+        Check.due("run", x.run(1, 9, 0, 0, 0, 0), 0);
+        Check.due("run", x.run(2, 9, 0, 0, 0, 0), 0);
+        Check.due("run", x.run(3, 9, 0, 0, 0, 0), 1);
+        SchoolHouse z = x;
+        Check.wrong(n -> z.run(n, 9, 0, 0, 0, 0), -1, 4);
+        Check.wrong(n -> z.run(3, n, 0, 0, 0, 0), -1, 3001);
+        Check.due("steps", x.run(3, 0, 0, 0, 0, 0), -1);
+        Check.due("what is refused leaves what was given", x.gave(-1), 6);
+        Check.due("what is refused leaves the steps", x.steps(), 1);
         String[] names = {"divide", "index", "null", "cast", "size", "store", "exact"};
         for (int i = 0; i < 7; i++) ends("raise " + names[i] + " ;", -11 - i);
     }
@@ -165,6 +187,42 @@ public final class RulesTest {
         givesReal("real ( 5 )", 5.0);
         givesReal("real ( 0.3 )", 0.3);
         gives("1 = 1.0", 1);
+        gives("1.5 = 1", 0);
+        gives("1 = 1.5", 0);
+        gives("1.5 = 1.5", 1);
+        gives("2.5 < 1", 0);
+        gives("2.5 < 2.5", 0);
+        gives("1 < 2.5", 1);
+        gives("1.5 > 2", 0);
+        gives("2 > 2.5", 0);
+        gives("2.5 > 2.5", 0);
+        gives("- 1.5 > - 2", 1);
+        gives("- 1.5 < - 2", 0);
+        gives("1 < 0.0 / 0", 0);
+        gives("1 = 0.0 / 0", 0);
+        // one real makes both doubles, from either side
+        givesReal("2 + 0.5", 2.5);
+        givesReal("0.5 + 2", 2.5);
+        givesReal("2 - 0.5", 1.5);
+        givesReal("0.5 - 2", -1.5);
+        givesReal("2 * 0.5", 1.0);
+        givesReal("0.5 * 2", 1.0);
+        givesReal("7 / 2.0", 3.5);
+        givesReal("7.0 / 2", 3.5);
+        givesReal("7 / 2 + 0.0", 3.0);
+        givesReal("7.5 % 2", 1.5);
+        givesReal("- 7 % 4.0", -3.0);
+        givesReal("7 / 0.0", Double.POSITIVE_INFINITY);
+        givesReal("0 / 0.0", Double.NaN);
+        givesReal("7 % 0.0", Double.NaN);
+        givesReal("2 % ( 1.0 / 0 )", 2.0);
+        givesReal("1.0 / 0 - 1.0 / 0", Double.NaN);
+        givesReal("0 * ( 1.0 / 0 )", Double.NaN);
+        givesReal("- ( 1.0 / 0 )", Double.NEGATIVE_INFINITY);
+        givesReal("real ( 0 ) * - 1", -0.0);
+        gives("whole ( 0.9999 )", 0);
+        gives("whole ( - 0.9999 )", 0);
+        gives("whole ( 999999.9999 )", 999999);
         gives("0.0 = - 0.0", 1);
         gives("- 0.0 < 0.0", 0);
         gives("0.0 / 0 = 0.0 / 0", 0);
@@ -180,6 +238,16 @@ public final class RulesTest {
         gives("whole ( - 1.0 / 0 )", LEAST);
         gives("whole ( 999999.0 * 999999 )", GREATEST);
         gives("whole ( 7 )", 7);
+        SchoolHouse w = school("a", "give whole ( a + 0.0 + real ( a ) / 2 ) ;");
+        Check.due("run", w.run(0, 9, GREATEST, 0, 0, 0), 1);
+        Check.due("gave", w.gave(-1), GREATEST);
+        Check.due("run", w.run(0, 9, LEAST, 0, 0, 0), 1);
+        Check.due("gave", w.gave(-1), LEAST);
+        w = school("a", "give whole ( real ( a ) ) ;");
+        for (int a : new int[] {LEAST, LEAST + 1, -1, 0, 1, GREATEST - 1, GREATEST}) {
+            Check.due("run", w.run(0, 9, a, 0, 0, 0), 1);
+            Check.due("gave", w.gave(-1), a);
+        }
         // a real works where a whole would not fit, or divides by 0
         SchoolHouse x = school("a", "for i to 200 { a = a * 1000.0 ; } give a ;");
         Check.due("run", x.run(0, 3000, 1, 0, 0, 0), 2);
@@ -259,6 +327,82 @@ public final class RulesTest {
         fails("marks ( 2 , - 1 )", INDEX);
         ends("give marks ( 2 , 1 ) ;", 0);
         ends("give marks ( 2 , 0 ) ;", 4);
+        fails("marks ( - 1 , 0 )", INDEX);
+        fails("marks ( 4 , 0 )", INDEX);
+        fails("marks ( none , none )", NULL);
+        fails("marks ( none , 0 )", NULL);
+        fails("marks ( 2 , none )", NULL);
+        fails("marks ( 2 , 1.0 )", CAST);
+        fails("marks ( 2.0 , 1.0 )", CAST);
+        fails("marks ( 2 , row ( 1 ) )", CAST);
+        fails("level ( row ( 1 ) , 1 )", CAST);
+        fails("level ( 1.0 , 4 )", CAST);
+        fails("level ( " + p + " , none )", NULL);
+        fails("level ( " + p + " , " + p + " )", CAST);
+        fails("person ( " + p + " )", CAST);
+        fails("row ( " + p + " )", CAST);
+        fails("real ( " + p + " )", CAST);
+        fails("whole ( row ( 1 ) )", CAST);
+        fails("whole ( reals ( 1 ) )", CAST);
+        fails("- row ( 1 )", CAST);
+        fails("size ( 1.0 )", CAST);
+        fails("1.0 [ 0 ]", CAST);
+        fails(p + " [ 0 ]", CAST);
+        fails(p + " [ none ]", NULL);
+        fails("row ( 64 ) [ 64 ]", INDEX);
+        gives("row ( 64 ) [ 63 ]", 0);
+        // the parts are asked for from the left
+        fails("person ( 9 ) [ 1 / 0 ]", INDEX);
+        fails("none [ 1 / 0 ]", DIVIDE);
+        fails("level ( person ( 9 ) , 1 / 0 )", INDEX);
+        fails("level ( 1 / 0 , person ( 9 ) )", DIVIDE);
+        fails("level ( none , 1 / 0 )", DIVIDE);
+        fails("marks ( person ( 9 ) , 1 / 0 )", INDEX);
+        fails("marks ( none , 1 / 0 )", DIVIDE);
+        fails("f ( person ( 9 ) , 1 / 0 )", INDEX);
+        fails("f ( 1 / 0 , person ( 9 ) )", DIVIDE);
+        fails("1 / 0 + person ( 9 )", DIVIDE);
+        fails("person ( 9 ) + 1 / 0", INDEX);
+        fails("person ( 9 ) * ( 1 / 0 )", INDEX);
+        fails("person ( 9 ) < 1 / 0", INDEX);
+        fails("999999 * 999999 + none", EXACT);
+        fails("none + 999999 * 999999", EXACT);
+    }
+
+    /** What an exp leaves goes into the exp around it, and nothing else. */
+    private static void inOneAnother() {
+        Check.part("exps in one another");
+        gives("10 + whole ( 2.9 )", 12);
+        gives("10 - whole ( 2 ) - 1", 7);
+        givesReal("10 + real ( 2 )", 12.0);
+        givesReal("10 - real ( 2.5 )", 7.5);
+        gives("10 + lacks ( none ) * 2", 12);
+        gives("10 + lacks ( row ( 1 ) )", 10);
+        gives("10 + size ( row ( 3 ) )", 13);
+        gives("10 + level ( person ( 1 ) , 0 )", 19);
+        gives("10 * level ( person ( 0 ) , 1 ) + level ( person ( 3 ) , 0 )", 11);
+        gives("10 + size ( marks ( 2 , 0 ) )", 13);
+        gives("10 + marks ( 2 , 0 ) [ 2 ]", 10);
+        gives("10 + row ( 1 ) [ 0 ] - - 3", 13);
+        gives("10 * ( 2 < 3 ) + ( 3 < 2 )", 10);
+        gives("( 1 = 1 ) + ( 2 > 1 ) + ( 1.5 < 2 )", 3);
+        gives("10 + size ( people ( size ( teachers ( 5 ) ) ) )", 15);
+        gives("row ( 3 ) [ row ( 2 ) [ 1 ] ]", 0);
+        gives("2 - lacks ( f ( 5 , none ) )", 1, "if lacks ( b ) { give none ; }");
+        SchoolHouse x = school("a", "give 100 * size ( marks ( 2 , a ) ) + marks ( 2 , a ) [ 1 ] ;");
+        x.marks(2, 1, 5);
+        x.mark(2, 0, 1, 7);
+        x.mark(2, 1, 1, 8);
+        Check.due("run", x.run(0, 9, 0, 0, 0, 0), 1);
+        Check.due("gave", x.gave(-1), 307);
+        Check.due("run", x.run(0, 9, 1, 0, 0, 0), 1);
+        Check.due("gave", x.gave(-1), 508);
+    }
+
+    /** What a rule gives for an exp behind some acts. */
+    private static void gives(String exp, int due, String acts) {
+        SchoolHouse x = ends(acts + " give " + exp + " ;", 1);
+        Check.due(acts + exp, x.gave(-1), due);
     }
 
     private static void rows() {
@@ -310,6 +454,40 @@ public final class RulesTest {
         Check.due("a whole as a double", x.gave(0), Double.doubleToLongBits(7.0));
         x = ends(rows + "x = r ; x [ 0 ] = 5 ; give r ;", 4);
         Check.due("gave", x.gave(0), 5);
+        ends(rows + "n [ none ] = 1 / 0 ;", DIVIDE);
+        ends(rows + "n [ person ( 9 ) ] = 1 / 0 ;", INDEX);
+        ends(rows + "w [ 1.0 ] = none ;", CAST);
+        ends(rows + "w [ none ] = 1 ;", NULL);
+        ends(rows + "r [ none ] = none ;", NULL);
+        ends(rows + "r [ 0 ] = none ;", NULL);
+        ends(rows + "r [ 0 ] = 1.0 ;", CAST);
+        ends(rows + "v [ 0 ] = none ;", NULL);
+        ends(rows + "v [ 0 ] = person ( 0 ) ;", CAST);
+        ends(rows + "v [ - 1 ] = 1.0 ;", INDEX);
+        ends(rows + "v [ 1 ] = 1.0 ;", INDEX);
+        ends(rows + "p [ 1 ] = none ;", INDEX);
+        ends(rows + "p [ - 1 ] = row ( 1 ) ;", INDEX);
+        ends(rows + "p [ 0 ] = 1.0 ;", CAST);
+        ends(rows + "t [ 1 ] = none ;", INDEX);
+        ends(rows + "t [ 0 ] = row ( 1 ) ;", CAST);
+        ends("x = person ( 0 ) ; x [ 0 ] = 1 ;", CAST);
+        ends("x = 1.5 ; x [ 0 ] = 1 ;", CAST);
+        ends("a [ 0 ] = 1 ;", CAST);
+        ends("x = row ( 64 ) ; x [ 63 ] = 1 ; x [ 64 ] = 1 ;", INDEX);
+        ends("x = row ( 0 ) ; x [ 0 ] = 1 ;", INDEX);
+        // all kinds of teachers, and nobody else
+        SchoolHouse y = Check.school("subject s ; staff t teacher : s ; staff u tutor : s ; staff v head : s ; group g 9 ; "
+            + "rule f ( a ) { t = teachers ( 2 ) ; t [ 1 ] = person ( a ) ; give t [ 1 ] ; }");
+        y.pupil(0, 0);
+        y.parent(0);
+        for (int a = 0; a < 5; a++) {
+            Check.due("run " + a, y.run(0, 9, a, 0, 0, 0), a < 3 ? 3 : STORE);
+            Check.due("gave " + a, y.gave(-3), a < 3 ? a : 0);
+        }
+        // between the rounds of a "for" nothing is left behind
+        items(ends("x = row ( 3 ) ; for i to 3 { for j to i { x [ j ] = x [ j ] + i ; } } give x ;", 4), 3, 2, 0);
+        items(ends("x = reals ( 2 ) ; for i to 2 { x [ i ] = i ; } give x ;", 5), 0, Double.doubleToLongBits(1));
+        items(ends("x = people ( 3 ) ; for i to 4 { if i < 3 { x [ i ] = person ( i + 1 ) ; } } give x ;", 6), 1, 2, 3);
     }
 
     private static void copies() {
@@ -348,6 +526,59 @@ public final class RulesTest {
         items(ends(rows + "try { copy p , 0 , t , 0 , 3 ; } on store { give t ; }", 7), 1, -9, -9);
         items(ends(rows + "p [ 1 ] = person ( 3 ) ; try { copy p , 0 , t , 0 , 3 ; } always { give t ; }", 7), 1, 0, -9);
         items(ends(rows + "copy p , 0 , p , 1 , 2 ; give p ;", 6), 1, 1, -9);
+        items(ends(rows + "copy r , 0 , r , 0 , 3 ; give r ;", 4), 1, 2, 3);
+        items(ends(rows + "copy t , 1 , t , 0 , 2 ; give t ;", 7), 0, -9, -9);
+        items(ends(rows + "x = r ; copy x , 0 , r , 1 , 2 ; give x ;", 4), 1, 1, 2);
+        items(ends(rows + "copy r , 2 , r , 0 , 0 ; give r ;", 4), 1, 2, 3);
+        items(ends(rows + "v [ 0 ] = 2.5 ; copy v , 0 , v , 2 , 1 ; give v ;", 5), Double.doubleToLongBits(2.5), 0, Double.doubleToLongBits(2.5));
+        items(ends(rows + "r [ 1 ] = 7 ; for i to 3 { x = row ( 2 ) ; copy r , i , x , 1 , 1 ; r [ 0 ] = x [ 1 ] + i ; } give r ;", 4), 5, 7, 3);
+        copySizes(rows);
+        copyOrder(rows);
+    }
+
+    private static void copySizes(String rows) {
+        // each row has its own end
+        String two = rows + "l = row ( 64 ) ; e = row ( 0 ) ; l [ 63 ] = 9 ; ";
+        items(ends(two + "copy l , 61 , r , 0 , 3 ; give r ;", 4), 0, 0, 9);
+        ends(two + "copy l , 62 , r , 0 , 3 ;", INDEX);
+        ends(two + "copy l , 60 , r , 0 , 4 ;", INDEX);
+        ends(two + "copy r , 0 , l , 0 , 4 ;", INDEX);
+        ends(two + "copy r , 0 , l , 62 , 3 ;", INDEX);
+        ends(two + "copy r , 0 , l , 61 , 3 ;", 0);
+        ends(two + "copy e , 0 , l , 0 , 1 ;", INDEX);
+        ends(two + "copy l , 0 , e , 0 , 1 ;", INDEX);
+        ends(two + "copy e , 0 , l , 64 , 0 ;", 0);
+        ends(two + "copy e , 0 , l , 65 , 0 ;", INDEX);
+        ends(two + "copy e , 1 , l , 0 , 0 ;", INDEX);
+        ends(two + "copy l , 0 , e , 1 , 0 ;", INDEX);
+        ends(two + "copy l , - 1 , e , 0 , 0 ;", INDEX);
+        ends(two + "copy l , 0 , e , - 1 , 0 ;", INDEX);
+        items(ends(two + "copy l , 0 , l , 1 , 63 ; copy l , 61 , r , 0 , 3 ; give r ;", 4), 0, 0, 0);
+        items(ends(two + "copy l , 1 , l , 0 , 63 ; copy l , 61 , r , 0 , 3 ; give r ;", 4), 0, 9, 9);
+    }
+
+    private static void copyOrder(String rows) {
+        ends(rows + "copy n , none , n , 1.0 , none ;", NULL);
+        ends(rows + "copy n , 0 , n , none , none ;", NULL);
+        ends(rows + "copy n , 0 , n , 0 , none ;", NULL);
+        ends(rows + "copy w , 1.0 , w , none , none ;", CAST);
+        ends(rows + "copy n , 9 , n , 9 , 9 ;", NULL);
+        ends(rows + "copy n , 9 , r , 9 , 9 ;", NULL);
+        ends(rows + "copy r , 9 , n , 9 , 9 ;", NULL);
+        ends(rows + "copy w , 9 , w , 9 , 9 ;", STORE);
+        ends(rows + "copy person ( 0 ) , 0 , r , 0 , 0 ;", STORE);
+        ends(rows + "copy r , 0 , person ( 0 ) , 0 , 0 ;", STORE);
+        ends(rows + "copy 1.5 , 0 , r , 0 , 0 ;", STORE);
+        ends(rows + "copy v , 0 , r , 0 , 0 ;", STORE);
+        ends(rows + "copy v , 0 , p , 0 , 0 ;", STORE);
+        ends(rows + "copy p , 0 , r , 0 , 0 ;", STORE);
+        ends(rows + "copy p , 0 , v , 0 , 0 ;", STORE);
+        ends(rows + "copy r , 0 , t , 0 , 0 ;", STORE);
+        ends(rows + "copy p , 0 , t , 0 , 0 ;", 0);
+        ends(rows + "copy p , 0 , t , 0 , 4 ;", INDEX);
+        ends(rows + "copy p , 1 , t , 1 , 2 ;", STORE);
+        ends(rows + "copy p , 0 , t , 0 , 2 ;", 0);
+        ends(rows + "p [ 0 ] = person ( 3 ) ; copy p , 0 , t , 0 , 1 ;", STORE);
     }
 
     private static void items(SchoolHouse x, long... due) {
@@ -390,6 +621,25 @@ public final class RulesTest {
         Check.due("the bound is asked for once", x.gave(-1), 3);
         x = ends("n = 0 ; for i to 3 { for i to 2 { n = n + 1 ; } n = n + 10 * i ; } give n ;", 1);
         Check.due("gave", x.gave(-1), 36);
+        gives("n", 5, "n = 5 ; if lacks ( none ) = 0 { n = 6 ; }");
+        gives("n", 1, "n = 0 ; for i to 1 { n = n + 1 ; }");
+        gives("lacks ( i )", 1, "for i to 0 { }");
+        gives("i", 2, "for i to 3 { }");
+        gives("7", 7, "if 1 { } else { give 1 ; }");
+        ends("for i to person ( 0 ) { }", CAST);
+        ends("for i to row ( 1 ) { }", CAST);
+        ends("if row ( 1 ) { }", CAST);
+        ends("if 0.0 { }", CAST);
+        x = school("a , b", "for i to a { give i ; } give - 1 ;");
+        for (int a : new int[] {LEAST, -1, 0}) {
+            Check.due("run", x.run(0, 9, a, 0, 0, 0), 1);
+            Check.due("gave", x.gave(-1), -1);
+        }
+        Check.due("run", x.run(0, 9, GREATEST, 0, 0, 0), 1);
+        Check.due("gave", x.gave(-1), 0);
+        x = school("a", "if a { give 1 ; }");
+        for (int a : new int[] {LEAST, -1, 1, GREATEST}) Check.due("run", x.run(0, 9, a, 0, 0, 0), 1);
+        Check.due("run", x.run(0, 9, 0, 0, 0, 0), 0);
     }
 
     private static void tries() {
@@ -426,8 +676,7 @@ public final class RulesTest {
             Check.due("run", x.run(0, 99, n, 0, 0, 0), 1);
             Check.due("gave", x.gave(-1), due[n]);
         }
-        x = Check.school("rule f ( n ) { try { g ( n ) ; } }".replace("g ( n ) ;", "n = g ( n ) + 1 ;")
-            + " rule g ( n ) { for i to 3 { for j to 3 { try { raise cast ; } always { n = n + 1 ; } } } }");
+        x = Check.school("rule f ( n ) { try { n = g ( n ) + 1 ; } } rule g ( n ) { for i to 3 { for j to 3 { try { raise cast ; } always { n = n + 1 ; } } } }");
         Check.due("run", x.run(0, 99, 0, 0, 0, 0), CAST);
         Check.due("one failure", x.count(12), 1);
         x = Check.school("rule f ( n ) { r = row ( 9 ) ; try { r [ g ( r ) ] = 1 ; } always { give r ; } } "
@@ -435,6 +684,69 @@ public final class RulesTest {
         Check.due("run", x.run(0, 99, 0, 0, 0, 0), 4);
         Check.due("always once", x.gave(0), 1);
         Check.due("failures", x.count(12), 2);
+    }
+
+    private static void eachFailure() {
+        Check.part("each of the failures");
+        String[] names = {"divide", "index", "null", "cast", "size", "store", "exact"};
+        String all = "";
+        for (int i = 0; i < 7; i++) all += "on " + names[i] + " { n = n + " + (i + 1) + " ; } ";
+        for (int i = 0; i < 7; i++) {
+            String raise = "raise " + names[i] + " ; ";
+            ends("try { " + raise + "} always { n = 1 ; }", -11 - i);
+            ends("try { " + raise + "} on " + names[(i + 1) % 7] + " { } on " + names[(i + 6) % 7] + " { } always { n = 1 ; }", -11 - i);
+            value("try { " + raise + "} on " + names[i] + " { give 5 ; }", 5);
+            // what stands behind the block that is done is not done
+            value("try { " + raise + "n = 100 ; } " + all + "give n ;", i + 1);
+            value("try { " + raise + "} " + all + "always { n = n + 10 ; } give n ;", i + 11);
+            // neither is what went on behind an "always" before
+            value("try { try { raise size ; } always { n = 20 ; } } on size { } try { " + raise + "} " + all + "give n ;", i + 21);
+            ends("try { try { give 9 ; } always { " + raise + "} } on size { } try { raise null ; } on null { } give none ;", i == 4 ? 0 : -11 - i);
+        }
+        // what is given is kept while "always" is done
+        ends("try { give none ; } always { n = 1 ; } give 5 ;", 0);
+        ends("try { give 2.5 ; } always { n = 1 ; } give 5 ;", 2);
+        ends("try { give person ( 0 ) ; } always { n = 1 ; } give 5 ;", 3);
+        SchoolHouse x = ends("try { give person ( 1 ) ; } always { n = 1 ; x = row ( 3 ) ; } give 5 ;", 3);
+        Check.due("gave", x.gave(-3), 1);
+        String[] rows = {"row", "reals", "people", "teachers"};
+        for (int i = 0; i < 4; i++) ends("try { give " + rows[i] + " ( 1 ) ; } always { n = 1 ; } give 5 ;", 4 + i);
+        ends("try { try { give none ; } always { raise null ; } } on null { give 1 ; }", 1);
+    }
+
+    /** What a rule that is called does with its own tries, while one of the caller's is under way. */
+    private static void triesAndCalls() {
+        Check.part("tries and calls");
+        String f = "rule f ( k ) { r = row ( 4 ) ; try { r [ 3 ] = g ( r , k ) ; } on null { r [ 3 ] = 7 ; } always { r [ 0 ] = r [ 0 ] + 1 ; } give r ; } ";
+        SchoolHouse x = Check.school(f + "rule g ( r , k ) { try { if k = 0 { give 5 ; } if k = 1 { raise null ; } if k = 2 { raise size ; } } on size { give 6 ; } "
+            + "always { r [ 1 ] = r [ 1 ] + 1 ; } give 8 ; }");
+        int[] due = {5, 7, 6, 8};
+        for (int k = 0; k < 4; k++) {
+            Check.due("run", x.run(0, 99, k, 0, 0, 0), 4);
+            items(x, 1, 1, 0, due[k]);
+        }
+        // a rule without a try gives from within the caller's
+        x = Check.school(f + "rule g ( r , k ) { for i to 3 { if i = k { give k * 10 ; } } }");
+        for (int k = 0; k < 3; k++) {
+            Check.due("run", x.run(0, 99, k, 0, 0, 0), 4);
+            items(x, 1, 0, 0, k * 10);
+        }
+        Check.due("none for a whole", x.run(0, 99, 5, 0, 0, 0), 4);
+        items(x, 1, 0, 0, 7);
+        // two tries of the one that is called, both in the caller's
+        x = Check.school(f + "rule g ( r , k ) { try { try { give k ; } always { r [ 1 ] = r [ 1 ] * 10 + 2 ; } } always { r [ 1 ] = r [ 1 ] * 10 + 3 ; "
+            + "if k = 1 { raise null ; } if k = 2 { give 9 ; } } }");
+        int[] last = {0, 7, 9};
+        for (int k = 0; k < 3; k++) {
+            Check.due("run", x.run(0, 99, k, 0, 0, 0), 4);
+            items(x, 1, 23, 0, last[k]);
+        }
+        // from "on" and from "always", too
+        x = Check.school("rule f ( k ) { r = row ( 2 ) ; try { try { raise cast ; } on cast { x = g ( r ) ; } always { x = g ( r ) ; } } "
+            + "on size { r [ 1 ] = 5 ; } give r ; } rule g ( r ) { r [ 0 ] = r [ 0 ] + 1 ; if r [ 0 ] = 2 { raise size ; } raise cast ; }");
+        Check.due("run", x.run(0, 99, 0, 0, 0, 0), 4);
+        items(x, 2, 5);
+        Check.due("failures", x.count(12), 3);
     }
 
     private static void value(String block, int due) {
@@ -477,6 +789,25 @@ public final class RulesTest {
         Check.due("run", x.run(0, 9, 2, 0, 0, 0), 0);
         Check.due("stand", x.stand(0, 3000), 1);
         Check.due("steps of the run", x.steps(), 3);
+        Check.due("the most", x.run(0, 3000, 2999, 0, 0, 0), 0);
+        Check.due("steps", x.steps(), 3000);
+        Check.due("one more", x.run(0, 3000, 3000, 0, 0, 0), -20);
+        Check.due("steps", x.steps(), 3000);
+        // a rule of no acts does no steps, and ends with the least of them
+        x = school("a", "");
+        Check.due("run", x.run(0, 1, 0, 0, 0, 0), 0);
+        Check.due("steps", x.steps(), 0);
+        // what was done stays done
+        x = school("a", "x = marks ( 2 , 0 ) ; x [ 0 ] = 5 ; x [ 1 ] = 6 ; x [ 2 ] = 7 ;");
+        Check.due("run", x.run(0, 3, 0, 0, 0, 0), -20);
+        int[] marks = {5, 6, 0};
+        for (int i = 0; i < 3; i++) Check.due("markOf", x.markOf(2, 0, i), marks[i]);
+        // an act that FAILS is a step all the same, and so is a "raise"
+        x = school("a", "try { a = 1 / 0 ; } on divide { raise size ; }");
+        Check.due("run", x.run(0, 9, 0, 0, 0, 0), SIZE);
+        Check.due("steps", x.steps(), 3);
+        Check.due("run", x.run(0, 2, 0, 0, 0, 0), -20);
+        Check.due("one failure for it", x.count(12), 3);
     }
 
     private static void calls() {
@@ -487,6 +818,16 @@ public final class RulesTest {
         Check.due("9", x.run(0, 3000, 8, 0, 0, 0), -21);
         Check.due("steps", x.steps(), 24);
         Check.due("steps ahead of depth", x.run(0, 23, 8, 0, 0, 0), -20);
+        Check.due("the step of the 9th call", x.run(0, 24, 8, 0, 0, 0), -21);
+        Check.due("gave", x.gave(-1), 0);
+        // the exps of the 9th call are asked for ahead of it
+        SchoolHouse y = Check.school("rule f ( n ) { if n = 7 { give f ( 1 / 0 ) ; } give f ( n + 1 ) ; }");
+        Check.due("run", y.run(0, 3000, 0, 0, 0, 0), DIVIDE);
+        Check.due("steps", y.steps(), 7 * 3 + 2);
+        // one behind the other they are not in one another
+        y = Check.school("rule f ( n ) { for i to 99 { n = g ( n ) ; } give n ; } rule g ( n ) { give n + 1 ; }");
+        Check.due("run", y.run(0, 3000, 0, 0, 0, 0), 1);
+        Check.due("gave", y.gave(-1), 99);
         x = Check.school("rule f ( n ) { try { give f ( n ) ; } always { give 5 ; } }");
         Check.due("no always", x.run(0, 3000, 8, 0, 0, 0), -21);
         Check.due("failures", x.count(12), 0);
@@ -550,6 +891,21 @@ public final class RulesTest {
         Check.due("read", Check.read(x, "rule f ( ) { }"), 1);
         Check.due("failures", x.count(12), 10000);
         Check.due("none begins", x.run(0, 3000, 0, 0, 0, 0), -23);
+        Check.due("what is no run goes on", x.parent(0), 0);
+        Check.due("read", Check.read(x, "group g 9 ; rule f ( p ) { give 0 - p ; }"), 1);
+        for (int i = 0; i < 3; i++) x.pupil(0, 0);
+        Check.due("stand", x.stand(0, 100), 3);
+        for (int k = 0; k < 3; k++) Check.due("none has a number", x.standing(k), k);
+        // the last FAILURE can come while pupils stand
+        x = Check.school("group g 9 ; rule f ( n ) { for i to n { try { raise size ; } on size { } } give n ; } rule g ( p ) { if p = 1 { raise null ; } give 0 - p ; }");
+        for (int i = 0; i < 4; i++) x.pupil(0, 0);
+        for (int i = 0; i < 10; i++) x.run(0, 3000, 999, 0, 0, 0);
+        x.run(0, 3000, 9, 0, 0, 0);
+        Check.due("failures", x.count(12), 9999);
+        Check.due("stand", x.stand(1, 100), 4);
+        int[] due = {0, 1, 2, 3};
+        for (int k = 0; k < 4; k++) Check.due("standing " + k, x.standing(k), due[k]);
+        Check.due("failures", x.count(12), 10000);
     }
 
     private static void gave() {
@@ -573,6 +929,32 @@ public final class RulesTest {
         Check.due("as it is now", x.gave(1), 44);
         x.stand(0, 3000);
         Check.due("as it is now", x.gave(1), 44);
+        x = school("k", "r = row ( 64 ) ; r [ 0 ] = - 1 ; r [ 63 ] = 63 ; if k { give r ; } give row ( 0 ) ;");
+        x.run(0, 9, 1, 0, 0, 0);
+        Check.due("how many", x.gave(-4), 64);
+        Check.due("the first", x.gave(0), -1);
+        Check.due("the last", x.gave(63), 63);
+        Check.due("behind the last", x.gave(64), 0);
+        x.run(0, 9, 0, 0, 0, 0);
+        Check.due("an empty row", x.gave(-4), 0);
+        Check.due("an empty row", x.gave(0), 0);
+        x = school("k", "if k = 1 { give 0.0 / 0 ; } r = reals ( 1 ) ; r [ 0 ] = - ( 0.0 / 0 ) ; give r ;");
+        x.run(0, 9, 1, 0, 0, 0);
+        Check.due("all NaN are one", x.gave(-2), Double.doubleToLongBits(Double.NaN));
+        x.run(0, 9, 0, 0, 0, 0);
+        Check.due("all NaN are one", x.gave(0), Double.doubleToLongBits(Double.NaN));
+        x = school("k", "if k < 0 { give k ; } if k = 0 { give person ( 0 ) ; } r = teachers ( 2 ) ; r [ 0 ] = person ( 0 ) ; give r ;");
+        for (int k : new int[] {LEAST, -1, -9}) {
+            x.run(0, 9, k, 0, 0, 0);
+            Check.due("a whole below 0", x.gave(-1), k);
+            Check.due("no person", x.gave(-3), 0);
+        }
+        x.run(0, 9, 0, 0, 0, 0);
+        Check.due("person 0", x.gave(-3), 0);
+        x.run(0, 9, 1, 0, 0, 0);
+        Check.due("teacher 0", x.gave(0), 0);
+        Check.due("none", x.gave(1), -9);
+        Check.due("beyond", x.gave(2), 0);
     }
 
     private static void standings() {
@@ -603,6 +985,16 @@ public final class RulesTest {
         Check.due("behind a pupil", x.standing(0), -1);
         Check.due("three", x.stand(0, 9), 3);
         Check.due("first", x.standing(0), 4);
+        Check.due("again three", x.stand(0, 9), 3);
+        int[] due = {4, 2, 0, -1};
+        for (int k = 0; k < 4; k++) Check.due("standing " + k, x.standing(k), due[k]);
+        SchoolHouse y = x;
+        Check.wrong(y::standing, -1, 3);
+        Check.wrong(n -> y.stand(n, 9), -1, 3);
+        Check.wrong(n -> y.stand(0, n), -1, 3001);
+        Check.due("0 steps", x.stand(0, 0), -1);
+        Check.due("no group", x.pupil(1, 0), -1);
+        Check.due("what is refused leaves them", x.standing(2), 0);
         Check.read(x, "x");
         Check.due("behind a fault", x.standing(0), 4);
         Check.read(x, "");
@@ -621,10 +1013,42 @@ public final class RulesTest {
         for (int k = 0; k < 15; k++) Check.due("standing " + k, x.standing(k), due[k]);
         Check.due("failures", x.count(12), 1);
         Check.due("rows", x.count(11), 1);
+        standingEdges();
         // steps are for each pupil anew
         x = Check.school("group g 99 ; rule f ( p ) { for i to 9 { } give p ; }");
         for (int i = 0; i < 5; i++) x.pupil(0, 0);
         Check.due("stand", x.stand(0, 11), 5);
         Check.due("standing", x.standing(4), 4);
+    }
+
+    private static void standingEdges() {
+        // 24 pupils, the last one first; 3000 steps each
+        SchoolHouse x = Check.school("group g 99 ; rule f ( p ) { for i to 1498 { n = p ; } give - n ; } rule g ( p ) { give 3 ; }");
+        for (int i = 0; i < 24; i++) x.pupil(0, 0);
+        Check.due("stand", x.stand(0, 3000), 24);
+        for (int k = 0; k < 24; k++) Check.due("standing " + k, x.standing(k), 23 - k);
+        Check.due("behind the last", x.standing(24), -1);
+        Check.due("stand", x.stand(1, 1), 24);
+        for (int k = 0; k < 24; k++) Check.due("standing " + k, x.standing(k), k);
+        // wholes and reals stand by their doubles, and what ends a run stands behind
+        x = Check.school("group g 2 ; group h 99 ; rule f ( p ) { m = marks ( p , 0 ) ; if lacks ( m ) { give m ; } if m [ 0 ] > 0 { give m [ 0 ] ; } "
+            + "if m [ 0 ] = 0 { give 1.5 ; } if m [ 0 ] = - 1 { raise exact ; } for i to 99999 { } } course c 9 ;");
+        x.parent(0);
+        int[] marks = {-2, 2, 0, 1, -1, 2, 0};
+        for (int i = 0; i < marks.length; i++) {
+            int p = x.pupil(1, 0);
+            x.marks(p, 0, 1);
+            x.mark(p, 0, 0, marks[i]);
+        }
+        x.pupil(0, 0);
+        Check.due("stand", x.stand(0, 100), 8);
+        int[] due = {4, 3, 7, 2, 6, 1, 5, 8};
+        for (int k = 0; k < due.length; k++) Check.due("standing " + k, x.standing(k), due[k]);
+        x.mark(1, 0, 0, 3);
+        Check.due("as they stood", x.standing(0), 4);
+        Check.due("stand", x.stand(0, 100), 8);
+        // 3 is behind the twos, ahead of those that gave no number
+        due = new int[] {4, 3, 7, 2, 6, 1, 5, 8};
+        for (int k = 0; k < due.length; k++) Check.due("standing " + k, x.standing(k), due[k]);
     }
 }

@@ -14,6 +14,9 @@ public final class TableTest {
         fits();
         weights();
         bounds();
+        boundsOfMany();
+        large();
+        searchedAnew();
         table();
         unit();
         Check.finish();
@@ -52,6 +55,35 @@ public final class TableTest {
         Check.due("1", x.week(1), 3);
         x.build(10000);
         Check.due("another day", x.unit(1, 1), 1);
+        Check.wrong(x::week, -1, 5);
+        Check.due("0", x.week(0), -1);
+        Check.due("the table stays", x.table(0), 0);
+        for (int n = 1; n <= 4; n++) {
+            Check.due("week", x.week(n), n == 1 ? 1 : n - 1);
+            Check.due("the last period", x.bar(0, 5 * n - 1, 1), 0);
+            Check.due("the last period", x.wish(0, 5 * n - 1, 9), 0);
+            Check.due("the last period", x.absent(0, 5 * n - 1, 1), 0);
+            Check.due("behind it", x.bar(0, 5 * n, 1), -1);
+            Check.due("behind it", x.wish(0, 5 * n, 9), -100);
+            Check.due("behind it", x.absent(0, 5 * n, 1), -1);
+            Check.due("behind it", x.cover(5 * n), -1);
+            Check.due("build", x.build(10000), 0);
+            Check.due("the last period", x.cover(5 * n - 1), 0);
+        }
+        // with the N that there is, all is cleared, too
+        x = simple();
+        x.absent(0, 0, 1);
+        x.bar(1, 0, 1);
+        x.wish(0, 4, -9);
+        Check.due("again 4", x.week(4), 4);
+        x.build(10000);
+        Check.due("no wishes", x.table(0), 0);
+        Check.due("period", x.unit(1, 1), 4);
+        Check.due("nobody absent", x.cover(0), 0);
+        Check.due("nothing open", x.covers(0), -9);
+        x.absent(0, 0, 1);
+        Check.due("nobody barred", x.cover(0), 0);
+        Check.due("nobody barred", x.covers(0), 1);
     }
 
     private static void bar() {
@@ -78,6 +110,16 @@ public final class TableTest {
         Check.due("not barred", x.unit(0, 1), 0);
         Check.due("off again", x.bar(0, 5, 0), 0);
         Check.due("no table", x.table(0), -100000);
+        SchoolHouse y = x;
+        Check.wrong(n -> y.bar(n, 0, 1), -1, 2);
+        Check.wrong(n -> y.bar(0, n, 1), -1, 20);
+        Check.wrong(n -> y.bar(0, 0, n), -1, 2);
+        Check.due("what is refused bars nobody", x.build(10000), 0);
+        Check.due("what is refused bars nobody", x.unit(0, 1), 0);
+        Check.due("twice", x.bar(0, 0, 1), 0);
+        Check.due("twice", x.bar(0, 0, 1), 0);
+        x.build(10000);
+        Check.due("barred", x.unit(0, 1), 1);
         for (int p = 0; p < 19; p++) x.bar(0, p, 1);
         Check.due("one day is too few", x.build(10000), 2);
         x.bar(0, 15, 0);
@@ -107,6 +149,21 @@ public final class TableTest {
         Check.due("the last period", x.wish(0, 19, -3), 0);
         x.build(10000);
         Check.due("weight", x.table(0), -3);
+        Check.wrong(n -> x.wish(n, 0, 0), -100, 1);
+        Check.wrong(n -> x.wish(0, n, 0), -100, 20);
+        Check.wrong(n -> x.wish(0, 0, n), -100, 100);
+        Check.due("the table stays", x.table(0), -3);
+        Check.due("what is refused is no wish", x.wish(0, 0, 5), 5);
+        // each lesson and each PERIOD has its own
+        SchoolHouse y = Check.school(STAFF + "room a 9 ; group g 9 ; lesson l : s g t 1 ; lesson m : s g u 1 ;");
+        for (int p = 0; p < 20; p++) {
+            Check.due("of l", y.wish(0, p, p + 1), 0);
+            Check.due("of m", y.wish(1, p, -p - 1), 0);
+        }
+        for (int p = 0; p < 20; p++) {
+            Check.due("of l", y.wish(0, p, 0), p + 1);
+            Check.due("of m", y.wish(1, p, 0), -p - 1);
+        }
     }
 
     private static void build() {
@@ -150,6 +207,18 @@ public final class TableTest {
         x.build(10000);
         Check.due("refused", x.build(0), -1);
         Check.due("table stays", x.table(0), 0);
+        SchoolHouse y = x;
+        Check.wrong(y::build, -1, 10001);
+        Check.due("table stays", x.table(0), 0);
+        Check.due("nodes stay", x.table(1), 80 / 2);
+        // a room for as many as there are, for one too few
+        x = Check.school(STAFF + "room a 9 ; group g 9 ; lesson l : s g t 1 ; ");
+        Check.due("as many", x.build(20), 0);
+        x = Check.school(STAFF + "room a 8 ; group g 9 ; lesson l : s g t 1 ; ");
+        Check.due("too few", x.build(20), 2);
+        Check.due("too few, and spent", x.build(19), 3);
+        x = Check.school(STAFF + "room a 99 ; group g 99 ; lesson l : s g t 1 ; ");
+        Check.due("99", x.build(20), 0);
     }
 
     private static void order() {
@@ -282,5 +351,116 @@ public final class TableTest {
             Check.due("room", x.unit(u, 2), rooms[u]);
         }
         Check.due("no unit", x.unit(5, 0), -1);
+    }
+
+    private static void boundsOfMany() {
+        Check.part("promise 20, the bound of many units");
+        String three = STAFF + "staff v head : s ; room a 9 ; group g 9 ; group h 9 ; group i 9 ; lesson l : s g t 1 ; lesson m : s h u 1 ; lesson n : s i v 1 ; ";
+        SchoolHouse x = Check.school(three);
+        x.week(1);
+        Check.due("build", x.build(10000), 0);
+        Check.due("nodes", x.table(1), 15);
+        x.wish(0, 1, 3);
+        x.wish(1, 0, -8);
+        x.wish(2, 3, -6);
+        for (int n = 0; n < 2; n++) {
+            Check.due("build", x.build(10000), 0);
+            Check.due("weight", x.table(0), -14);
+            Check.due("period", x.unit(0, 1), 2);
+        }
+        // unit 0 goes to period 1 for the sake of both units behind it: 3 - 8 - 6
+        for (int p = 2; p < 5; p++) x.wish(0, p, 9);
+        Check.due("build", x.build(10000), 0);
+        Check.due("weight", x.table(0), -11);
+        int[] due = {1, 0, 3};
+        for (int u = 0; u < 3; u++) Check.due("period", x.unit(u, 1), due[u]);
+        // the least WISH counts wherever it lies: at the second PERIOD, at the last one
+        for (int p : new int[] {1, 4}) {
+            x = Check.school(STAFF + "room a 9 ; group g 9 ; group h 9 ; lesson l : s g t 1 ; lesson m : s h u 1 ; ");
+            x.week(1);
+            x.wish(1, p, -8);
+            x.wish(0, 2, -5);
+            Check.due("build", x.build(10000), 0);
+            Check.due("weight", x.table(0), -13);
+        }
+        // and is the lesson's own, not that of the lesson behind it
+        x = Check.school(three);
+        x.wish(2, 0, -50);
+        x.wish(2, 1, -50);
+        Check.due("build", x.build(10000), 0);
+        Check.due("weight", x.table(0), -50);
+        Check.due("period", x.unit(2, 1), 1);
+        // unit 0 at 0; unit 1 at 1 (2 NODES); unit 2 at 2 gives 0 (3), at the others no better (17); unit 1 at 2 (1); unit 2 at 1 gives -50 (20);
+        // then neither unit 1 (17) nor unit 0 (19) can be better
+        Check.due("nodes", x.table(1), 1 + 2 + 3 + 17 + 1 + 20 + 17 + 19);
+    }
+
+    /** All that a text can tell of units, and all NODES. */
+    private static void large() {
+        Check.part("promise 20, as much as can be");
+        StringBuilder b = new StringBuilder("subject s ; ");
+        for (int i = 0; i < 6; i++) b.append("room r").append(i).append(" 9 ; ");
+        for (int i = 0; i < 10; i++) b.append("staff t").append(i).append(" head : s ; ");
+        for (int i = 0; i < 8; i++) b.append("group g").append(i).append(" 9 ; ");
+        for (int i = 0; i < 12; i++) b.append("lesson l").append(i).append(" : s g").append(i % 8).append(" t").append(i % 10).append(" 3 ; ");
+        SchoolHouse x = Check.school(b.toString());
+        Check.due("units", x.count(9), 36);
+        Check.due("too few NODES", x.build(35), 3);
+        Check.due("build", x.build(10000), 0);
+        Check.due("each unit looks at all its PLACES once", x.table(1), 36 * 120);
+        Check.due("weight", x.table(0), 0);
+        for (int u = 0; u < 36; u++) {
+            Check.due("lesson", x.unit(u, 0), u / 3);
+            Check.due("day", x.unit(u, 1) / 4, u % 3);
+        }
+        Check.due("no unit", x.unit(36, 0), -1);
+        Check.due("no cover", x.covers(35), -2);
+        Check.due("no unit", x.covers(36), -1);
+        for (int l = 0; l < 12; l++) {
+            for (int p = 0; p < 20; p++) x.wish(l, p, -99);
+        }
+        Check.due("build", x.build(10000), 0);
+        Check.due("weight", x.table(0), -99 * 36);
+        // NODES are spent at the very last one
+        for (int l = 0; l < 12; l++) {
+            for (int p = 0; p < 20; p++) x.wish(l, p, 99 - (7 * l + 13 * p) % 20);
+        }
+        for (int nodes : new int[] {9999, 10000}) {
+            Check.due("build", x.build(nodes), 1);
+            Check.due("nodes", x.table(1), nodes);
+        }
+        x.week(1);
+        Check.due("build", x.build(10000), 3);
+        Check.due("nodes", x.table(1), 10000);
+        Check.due("no table", x.table(0), -100000);
+        Check.due("no unit", x.unit(35, 0), -2);
+    }
+
+    private static void searchedAnew() {
+        Check.part("promise 20, from the beginning");
+        SchoolHouse x = simple();
+        for (int p = 0; p < 20; p++) x.wish(0, p, 7);
+        Check.due("spent behind unit 0", x.build(1), 3);
+        Check.due("build", x.build(10000), 0);
+        Check.due("weight", x.table(0), 14);
+        Check.due("spent", x.build(9), 1);
+        Check.due("weight", x.table(0), 14);
+        Check.due("build", x.build(10000), 0);
+        Check.due("weight", x.table(0), 14);
+        Check.due("nodes", x.table(1), 40);
+        // what an earlier text's units wished is no bound of this one's
+        x = Check.school(STAFF + "room a 9 ; group g 9 ; group h 9 ; lesson l : s g t 1 ; lesson m : s h u 2 ; ");
+        for (int p = 0; p < 20; p++) x.wish(1, p, -99);
+        x.build(10000);
+        Check.read(x, STAFF + "room a 9 ; group g 9 ; group h 9 ; lesson l : s g t 1 ; lesson m : s h u 1 ; ");
+        Check.due("build", x.build(10000), 0);
+        Check.due("weight", x.table(0), 0);
+        Check.due("nodes", x.table(1), 40);
+        // a table found lately is no bound either
+        x.wish(0, 0, 1);
+        x.build(10000);
+        for (int p = 0; p < 20; p++) x.wish(0, p, 50);
+        Check.due("build", x.build(10000), 0);
+        Check.due("weight", x.table(0), 50);
     }
 }

@@ -834,6 +834,13 @@ public final class RulesTest {
         x = Check.school("rule f ( a , b , c , d ) { give g ( d , c ) * 10 + g ( b , a ) ; } rule g ( x , y ) { y = y + 0 ; give x - y ; }");
         Check.due("run", x.run(0, 3000, 1, 3, 4, 9), 1);
         Check.due("gave", x.gave(-1), 52);
+        // each call begins with NONE in what is none of its names
+        x = Check.school("rule f ( ) { give g ( 1 ) + g ( 2 ) * 10 + g ( 3 ) * 100 ; } rule g ( n ) { if lacks ( y ) = 0 { raise null ; } y = n ; give y ; }");
+        Check.due("run", x.run(0, 3000, 0, 0, 0, 0), 1);
+        Check.due("gave", x.gave(-1), 321);
+        Check.due("run", x.run(1, 3000, 4, 0, 0, 0), 1);
+        Check.due("run", x.run(1, 3000, 5, 0, 0, 0), 1);
+        Check.due("gave", x.gave(-1), 5);
         // variables are of their own call; rows are not copied
         x = Check.school("rule f ( a ) { x = 5 ; r = row ( 1 ) ; y = g ( r ) ; give r [ 0 ] * 100 + x * 10 + lacks ( y ) ; } "
             + "rule g ( x ) { x [ 0 ] = 7 ; x = 3 ; if lacks ( y ) = 0 { raise null ; } y = 1 ; }");
@@ -961,6 +968,7 @@ public final class RulesTest {
         Check.part("promise 15");
         SchoolHouse x = Check.school("group g 9 ; rule f ( p ) { give 0 - p ; } rule g ( ) { } rule h ( a , b ) { }");
         Check.due("none yet", x.stand(0, 9), 0);
+        Check.due("none stands", x.standing(0), -1);
         Check.due("no rule", x.stand(3, 9), -1);
         Check.due("no rule", x.stand(-1, 9), -1);
         Check.due("steps", x.stand(0, 0), -1);

@@ -383,6 +383,14 @@ public final class TableTest {
             Check.due("build", x.build(10000), 0);
             Check.due("weight", x.table(0), -13);
         }
+        // also where its STAFF is BARRED: so each place of unit 0 is hopeful
+        x = Check.school(STAFF + "room a 9 ; group g 9 ; group h 9 ; lesson l : s g t 1 ; lesson m : s h u 1 ; ");
+        x.week(1);
+        x.wish(1, 0, -5);
+        x.bar(1, 0, 1);
+        Check.due("build", x.build(10000), 0);
+        Check.due("weight", x.table(0), 0);
+        Check.due("nodes", x.table(1), 5 + 5 * 5);
         // and is the lesson's own, not that of the lesson behind it
         x = Check.school(three);
         x.wish(2, 0, -50);

@@ -609,6 +609,13 @@ public final class TextTest {
             Check.due("read", Check.read(x, text), 1);
             for (int i = -4; i < 2; i++) Check.due("gave", x.gave(i), 0);
             Check.due("steps", x.steps(), 0);
+            x.pupil(0, 0);
+            Check.due("marks", x.marks(2, 0, 4), 0);
+            x.mark(2, 0, 0, 6);
+            for (int i = -4; i < 2; i++) Check.due("gave, with a new row", x.gave(i), 0);
+            Check.due("stand", x.stand(0, 9), 1);
+            for (int i = -4; i < 2; i++) Check.due("gave, behind a stand()", x.gave(i), 0);
+            Check.due("steps, behind a stand()", x.steps(), 0);
         }
         SchoolHouse x = Check.school(text);
         x.parent(3);

@@ -568,6 +568,8 @@ public final class SchoolHouse {
         private Text out;
         /** The first fault of those that are looked for behind all others. */
         private int late;
+        /** How many exps are open, one in another, and the NODES of the outermost one. */
+        private int openExps;
         private int expNodes;
         private final long[] variables = new long[MOST_VARIABLES];
         /** Where a variable was used first; below 0: it is told. */
@@ -587,9 +589,23 @@ public final class SchoolHouse {
             out = text;
             out.forget();
             late = -1;
+            openExps = 0;
             callCount = 0;
             in.begin();
-            for (int n = 0; n < Scanner.ROOM && stands() && in.kind() != Scanner.END; n++) item();
+            for (int n = 0; n < Scanner.ROOM && stands() && in.kind() != Scanner.END; n++) {
+                int item = in.find(ITEMS);
+                in.pass(item >= 0);
+                switch (item) {
+                    case Text.SUBJECT: subject(); break;
+                    case Text.ROOM: room(); break;
+                    case Text.STAFF: staff(); break;
+                    case Text.GROUP: group(); break;
+                    case Text.LESSON: lesson(); break;
+                    case Text.COURSE: course(); break;
+                    case Text.RULE: rule(); break;
+                    default: break;
+                }
+            }
             linkCalls();
             return stands() ? late : in.fault();
         }
@@ -604,21 +620,6 @@ public final class SchoolHouse {
         }
 
         // ---- the things of the school
-
-        private void item() {
-            int item = in.find(ITEMS);
-            in.pass(item >= 0);
-            switch (item) {
-                case Text.SUBJECT: subject(); break;
-                case Text.ROOM: room(); break;
-                case Text.STAFF: staff(); break;
-                case Text.GROUP: group(); break;
-                case Text.LESSON: lesson(); break;
-                case Text.COURSE: course(); break;
-                case Text.RULE: rule(); break;
-                default: break;
-            }
-        }
 
         private void subject() {
             newName(Text.SUBJECT);
@@ -777,15 +778,15 @@ public final class SchoolHouse {
             }
         }
 
-        private void countNode() {
-            if (out.nodes >= MOST_NODES) in.pass(false);
+        /** Whether one more NODE can stand. */
+        private boolean countNode() {
             out.nodes++;
+            return out.nodes <= MOST_NODES;
         }
 
-        private void countExpNode() {
-            if (expNodes >= MOST_EXP_NODES) in.pass(false);
+        private boolean countExpNode() {
             expNodes++;
-            countNode();
+            return countNode() && expNodes <= MOST_EXP_NODES;
         }
 
         /** One of ( [ { or - that lies in so many others. */
@@ -821,7 +822,7 @@ public final class SchoolHouse {
         }
 
         private void act(int depth) {
-            countNode();
+            if (!countNode()) in.pass(false);
             out.emit(Machine.STEP);
             int act = in.find(ACTS);
             if (act < 0) {
@@ -846,22 +847,22 @@ public final class SchoolHouse {
             if (in.isSign('[')) {
                 int slot = useVariable(name, place);
                 open('[', depth);
-                wholeExp(depth + 1);
+                exp(depth + 1);
                 sign(']');
                 sign('=');
-                wholeExp(depth);
+                exp(depth);
                 emit(Machine.SET_ITEM, slot);
             } else {
                 sign('=');
                 int slot = tellVariable(name);
-                wholeExp(depth);
+                exp(depth);
                 emit(Machine.SET, slot);
             }
             sign(';');
         }
 
         private void ifAct(int depth) {
-            wholeExp(depth);
+            exp(depth);
             int no = emitHole(Machine.UNLESS);
             block(depth);
             if (in.find("else") == 0) {
@@ -880,7 +881,7 @@ public final class SchoolHouse {
             in.pass(isName());
             int slot = tellVariable(name);
             in.pass(in.find("to") == 0);
-            wholeExp(depth);
+            exp(depth);
             out.emit(Machine.LOOP);
             int round = out.codeLength();
             emit(Machine.ROUND, slot);
@@ -926,16 +927,16 @@ public final class SchoolHouse {
         }
 
         private void giveAct(int depth) {
-            wholeExp(depth);
+            exp(depth);
             out.emit(Machine.GIVE);
             sign(';');
         }
 
         private void copyAct(int depth) {
-            wholeExp(depth);
+            exp(depth);
             for (int n = 0; n < 4; n++) {
                 sign(',');
-                wholeExp(depth);
+                exp(depth);
             }
             out.emit(Machine.COPY);
             sign(';');
@@ -943,28 +944,24 @@ public final class SchoolHouse {
 
         // ---- exps
 
-        /** An exp that lies in no other one. */
-        private void wholeExp(int depth) {
-            expNodes = 0;
-            exp(depth);
-        }
-
         private void exp(int depth) {
+            if (openExps == 0) expNodes = 0;
+            openExps++;
             sum(depth);
             int compare = in.findSign("<>=");
-            if (compare < 0) return;
-            countExpNode();
-            in.pass(true);
-            sum(depth);
-            emit(Machine.COMPARE, compare);
+            if (compare >= 0) {
+                in.pass(countExpNode());
+                sum(depth);
+                emit(Machine.COMPARE, compare);
+            }
+            openExps--;
         }
 
         private void sum(int depth) {
             term(depth);
             for (int n = 0; n < MOST_EXP_NODES && in.findSign("+-") >= 0; n++) {
                 int op = Machine.PLUS + in.findSign("+-");
-                countExpNode();
-                in.pass(true);
+                in.pass(countExpNode());
                 term(depth);
                 emit(Machine.WORK, op);
             }
@@ -974,8 +971,7 @@ public final class SchoolHouse {
             one(depth);
             for (int n = 0; n < MOST_EXP_NODES && in.findSign("*/%") >= 0; n++) {
                 int op = Machine.TIMES + in.findSign("*/%");
-                countExpNode();
-                in.pass(true);
+                in.pass(countExpNode());
                 one(depth);
                 emit(Machine.WORK, op);
             }
@@ -983,7 +979,7 @@ public final class SchoolHouse {
 
         private void one(int depth) {
             if (in.isSign('-')) {
-                countExpNode();
+                if (!countExpNode()) in.pass(false);
                 open('-', depth);
                 if (stands()) one(depth + 1);
                 out.emit(Machine.NEGATE);
@@ -991,7 +987,7 @@ public final class SchoolHouse {
             }
             base(depth);
             for (int n = 0; n < MOST_EXP_NODES && in.isSign('['); n++) {
-                countExpNode();
+                if (!countExpNode()) in.pass(false);
                 inner('[', ']', depth);
                 out.emit(Machine.ITEM);
             }
@@ -1009,7 +1005,7 @@ public final class SchoolHouse {
                 inner('(', ')', depth);
                 return;
             }
-            countExpNode();
+            if (!countExpNode()) in.pass(false);
             int kind = in.kind();
             int call = in.find(BASES);
             if (kind == Scanner.NUMBER) emit(Machine.PUSH_WHOLE, in.whole());
